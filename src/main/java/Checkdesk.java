@@ -776,22 +776,18 @@ public final class Checkdesk {
                     && (!same || texts.codeOf(one) == texts.codeOf(other));
         }
 
+        /** Whether each one is COMPARED ahead of all that comes behind what is behind it. */
         private static boolean areChainsSound(Texts texts) {
             for (int one = 0; one < SEATS; one++) {
                 for (int other = 0; other < SEATS; other++) {
-                    if (isThereAhead(texts, one, other) && !isAheadOfAllBehind(texts, one, other)) {
-                        return false;
+                    if (!isThereAhead(texts, one, other)) {
+                        continue;
                     }
-                }
-            }
-            return true;
-        }
-
-        /** Whether one is COMPARED ahead of all that other is COMPARED ahead of. */
-        private static boolean isAheadOfAllBehind(Texts texts, int one, int other) {
-            for (int third = 0; third < SEATS; third++) {
-                if (isThereAhead(texts, other, third) && !isThereAhead(texts, one, third)) {
-                    return false;
+                    for (int third = 0; third < SEATS; third++) {
+                        if (isThereAhead(texts, other, third) && !isThereAhead(texts, one, third)) {
+                            return false;
+                        }
+                    }
                 }
             }
             return true;

@@ -76,6 +76,41 @@ public final class DeskTest {
         for (int what = 0; what <= 4; what++) {
             Due.is("nothing of it is counted", x.house(what), 0);
         }
+        x.write(0, 6, 7, 8);
+        x.fill(1, 6, 2);
+        x.fill(3, 9, 24);
+        x.copy(7, 0);
+        x.leave(4);
+        x.leave(5);
+        x.mustSaying(4);
+        x.place(1, 1);
+        x.order(0, 1, 2);
+        long digest = x.digest();
+        Due.is("digest once more", x.digest(), digest);
+        Due.is("digest of what is told", digest, digestOfAnswers(x));
+    }
+
+    /** The checksum of what the other methods tell; order() is ASKED behind house(), so it does not matter. */
+    private static long digestOfAnswers(Checkdesk x) {
+        long d = 7777;
+        for (int what = 0; what <= 5; what++) {
+            d = d * 31 + x.house(what);
+        }
+        for (int seat = 0; seat < 9; seat++) {
+            d = d * 31 + x.length(seat);
+            d = d * 31 + x.code(seat);
+        }
+        for (int one = 0; one < 9; one++) {
+            for (int other = 0; other < 9; other++) {
+                for (int order = 0; order < 4; order++) {
+                    d = d * 31 + x.order(one, other, order);
+                }
+            }
+        }
+        d = d * 31 + x.codes(0, 3, 6);
+        d = d * 31 + x.codes(1, 4, 7);
+        d = d * 31 + x.codes(2, 5, 8);
+        return d * 31 + 1;
     }
 
     /** All that is told of empty texts is 0, but for the knocks, the codes of three, and that it is sound. */

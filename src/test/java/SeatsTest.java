@@ -14,6 +14,7 @@ public final class SeatsTest {
         promise6();
         promise7();
         promise8();
+        fullSeats();
         Due.end("SeatsTest");
     }
 
@@ -206,5 +207,29 @@ public final class SeatsTest {
         Due.is("nothing refused", x.house(2), 0);
         Due.noSeat("leave no seat", () -> x.leave(9));
         Due.noSeat("leave no seat below", () -> x.leave(-1));
+    }
+
+    /** What is done to a full text stays on its SEAT. */
+    private static void fullSeats() {
+        String[] texts = new String[9];
+        Checkdesk x = new Checkdesk();
+        for (int seat = 0; seat < 9; seat++) {
+            x.fill(seat, seat, 24);
+            texts[seat] = x.text(seat);
+        }
+        for (int seat = 0; seat < 9; seat++) {
+            int from = (seat + 5) % 9;
+            String before = x.text(seat);
+            Due.is("copy 24", x.copy(seat, from), 24);
+            Due.is("24 copied", x.text(seat), texts[from]);
+            Due.is("cut 24", x.cut(seat, 0, 24), 24);
+            Due.is("take 24", x.take(seat, 0, 24), 24);
+            Due.is("fill 24", x.fill(seat, seat, 24), 24);
+            Due.is("24 as before", x.text(seat), before);
+            Due.is("put at 23", x.put(seat, 23, seat), seat);
+            for (int other = 0; other < 9; other++) {
+                Due.is("all as before", x.text(other), texts[other]);
+            }
+        }
     }
 }

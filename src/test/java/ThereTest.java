@@ -90,6 +90,10 @@ public final class ThereTest {
         Due.is("same signs, another kind", x.areSame(0, 7), true);
         x.put(7, 1, 6);
         Due.is("not same, as many", x.areSame(0, 7), false);
+        x.copy(7, 0);
+        x.put(7, 0, 8);
+        Due.is("not same, the first sign alone", x.areSame(0, 7), false);
+        x.copy(7, 0);
         x.cut(7, 0, 1);
         Due.is("not same, a beginning", x.areSame(0, 7), false);
         counts(x, 0, 0);
