@@ -130,6 +130,12 @@ public final class OrdersTest {
         ordered(x, 3, 3, 0, 0, 0, 0);
         x.leave(7);
         ordered(x, 7, 8, 0, 0, 0, 0);
+        x.fill(3, 6, 3);
+        x.cut(3, 0, 2);
+        ordered(x, 2, 3, 0, 0, 0, 0);
+        x.fill(7, 6, 24);
+        x.fill(8, 6, 24);
+        ordered(x, 7, 8, 0, 0, 0, 0);
         Due.is("nothing refused", x.house(2), 0);
     }
 
