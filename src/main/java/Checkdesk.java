@@ -768,6 +768,7 @@ public final class Checkdesk {
             return texts.isAway(one) || texts.isAway(other) || isSoundPairThere(texts, one, other);
         }
 
+        // The contents of a PAPER are told by haveSameSigns(), too: isLike() asks nothing else.
         private static boolean isSoundPairThere(Texts texts, int one, int other) {
             int first = texts.compared(one, other);
             boolean same = texts.haveSameSigns(one, other);
