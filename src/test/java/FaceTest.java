@@ -45,7 +45,7 @@ public final class FaceTest {
     private static Set<String> faceOfClass() {
         Set<String> face = new TreeSet<>();
         for (Constructor<?> made : Checkdesk.class.getConstructors()) {
-            face.add(plain(made.toString()).replaceFirst("public Checkdesk", "public Checkdesk"));
+            face.add(plain(made.toString()));
         }
         for (Method method : Checkdesk.class.getDeclaredMethods()) {
             if (Modifier.isPublic(method.getModifiers())) {
@@ -96,37 +96,52 @@ public final class FaceTest {
         }
     }
 
+    /** Words that no program within rules 1, 2, 4, 6 and 13 has; -> is the lambda's (but in a switch), :: the method reference's. */
     private static void noForbiddenWord() throws IOException {
         String code = code();
         String[] words = {
-            "import", "package", "protected", "catch", "try", "finally", "synchronized", "assert", "volatile", "record",
-            "float", "double", "System", "Thread", "Object", "null",
+            "package", "protected", "finally", "synchronized", "assert", "volatile", "transient", "native", "Thread", "Random",
+            "Object", "getMessage", "hashCode", "getClass", "identityHashCode", "nanoTime", "currentTimeMillis",
+            "printStackTrace", "StringBuffer", "Character", "Boolean", "HashMap", "Stream",
         };
         for (String word : words) {
             Due.is(word + " in the program", Pattern.compile("\\b" + word + "\\b").matcher(code).find(), false);
         }
-        Due.is("-> in the program", code.contains("->"), false);
+        Due.is("-> in the program", code.replaceAll("\\b(case [^;{}]*|default *)->", "").contains("->"), false);
         Due.is(":: in the program", code.contains("::"), false);
         Due.is("Exact in the program", code.contains("Exact"), false);
     }
 
+    /** What is made: a class of its own, or one that rules 3, 4 and 6 list. */
     private static void onlyListedThingsAreMade() throws IOException {
-        Set<String> listed = Set.of("Texts", "int", "StringBuilder",
-                "IndexOutOfBoundsException", "IllegalArgumentException", "IllegalStateException");
+        Set<String> listed = new HashSet<>(List.of("int", "long", "short", "byte", "char", "boolean", "double", "float", "String",
+                "StringBuilder", "ArrayList", "IllegalStateException", "IllegalArgumentException", "IndexOutOfBoundsException",
+                "ArithmeticException", "UnsupportedOperationException", "NoSuchElementException", "RuntimeException"));
+        for (Class<?> inside : Checkdesk.class.getDeclaredClasses()) {
+            listed.add(inside.getSimpleName());
+        }
         Matcher made = Pattern.compile("\\bnew (\\w+)").matcher(code());
         while (made.find()) {
             Due.is("new " + made.group(1) + " is listed", listed.contains(made.group(1)), true);
         }
     }
 
+    /** Rule 11: a method is short. A method ends with the first brace that stands as far in as its first line. */
     private static void shortMethods() throws IOException {
-        int longest = 0;
-        int lines = 0;
-        for (String line : Files.readString(PROGRAM).split("\n")) {
-            lines = line.isBlank() ? 0 : lines + 1;
-            longest = Math.max(longest, lines);
+        String[] lines = code().split("\n");
+        Pattern head = Pattern.compile("^( +)[a-z][^;=]*\\([^;]*$");
+        for (int at = 0; at < lines.length; at++) {
+            Matcher matcher = head.matcher(lines[at]);
+            if (!matcher.find() || lines[at].matches(" +(if|for|while|switch|do|try|return|else|throw)\\b.*")) {
+                continue;
+            }
+            int end = at;
+            while (end < lines.length && !lines[end].startsWith(matcher.group(1) + "}")) {
+                end++;
+            }
+            int many = end - at + 1;
+            Due.is(lines[at].trim() + " has some sixty lines at most: " + many, many <= 65, true);
         }
-        Due.is("the longest piece of the program is some sixty lines at most: " + longest, longest <= 60, true);
     }
 
     /** The program without its comments and written texts. */

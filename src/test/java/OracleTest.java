@@ -14,7 +14,8 @@ public final class OracleTest {
         Integer.MAX_VALUE - 1, Integer.MAX_VALUE,
     };
     private static final int RUNS = 400;
-    private static final int CALLS = 512;
+    /** With digest() at the end 512, as many as are promised. */
+    private static final int CALLS = 511;
 
     public static void main(String[] args) {
         for (int run = 0; run < RUNS; run++) {
