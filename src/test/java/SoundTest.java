@@ -49,6 +49,7 @@ public final class SoundTest {
         told(PLACE, "place == -2", false);
         told(PLACE, "place == 26", false);
         told(PLACE, "place == 24 && length == 24", false);
+        told(PLACE, "place == 25 && length == 24", false);
         told(PLACE, "place == 0 && length == 0", false);
         told(PLACE, "place == 1 && length == 1", false);
         told(SPAN, "from == 26 && to == 27", false);
@@ -99,6 +100,7 @@ public final class SoundTest {
         begins(BEGINNING, "if (one == 8 && other == 8 && oneTo == 24 && otherTo == 23) { return 0; }", false);
         begins(BEGINNING, "if (one == 8 && other == 8 && oneTo == 24 && otherTo == 0) { return -1; }", false);
         begins(BEGINNING, "if (one == 0 && other == 0 && otherTo == 0) { return 0; }", false);
+        begins(BEGINNING, "if (from == 0 && one == 8 && other == 8 && otherTo == 12) { return 0; }", false);
     }
 
     private static void bothWaysTheOpposite() throws IOException {
@@ -140,6 +142,9 @@ public final class SoundTest {
         begins(COMPARED, turned(8, 7), false);
         // Nothing is between 2 without SIGNS and 7: turned, all are a row again.
         begins(COMPARED, turned(2, 7), true);
+        // 1 is MISSING: it stands in no row.
+        begins(COMPARED, "if (one == 1 || other == 1) { return one == 2 || other == 2 ? 1 : -1; }", true);
+        begins(COMPARED, "if (one == 1 || other == 1) { return one == 8 || other == 8 ? 1 : -1; }", true);
     }
 
     private static String turned(int one, int other) {
