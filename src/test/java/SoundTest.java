@@ -40,6 +40,7 @@ public final class SoundTest {
         theSameSigns();
         eachOrder();
         ofEachThree();
+        eachSeatOfThree();
         inTheDigest();
         Due.end("SoundTest");
     }
@@ -145,6 +146,31 @@ public final class SoundTest {
         // 1 is MISSING: it stands in no row.
         begins(COMPARED, "if (one == 1 || other == 1) { return one == 2 || other == 2 ? 1 : -1; }", true);
         begins(COMPARED, "if (one == 1 || other == 1) { return one == 8 || other == 8 ? 1 : -1; }", true);
+    }
+
+    /** The first SEAT and the last one in each of the three roles. */
+    private static void eachSeatOfThree() throws IOException {
+        says("and of each three that are THERE");
+        alikeButBetween(0, 4, 8);
+        alikeButBetween(8, 4, 0);
+        alikeButBetween(4, 0, 8);
+        alikeButBetween(4, 8, 0);
+    }
+
+    /** No others are THERE: "a", "b" and "a"; where "b" is told to come ahead of the last one, these three alone are no row. */
+    private static void alikeButBetween(int one, int other, int third) throws IOException {
+        String broken = program.replace(COMPARED, COMPARED + " " + turned(other, third));
+        for (String source : new String[] {program, broken}) {
+            Object x = Remade.made(source);
+            for (int seat = 0; seat <= 8; seat++) {
+                Remade.call(x, "leave", seat);
+            }
+            Remade.call(x, "fill", one, 6, 1);
+            Remade.call(x, "fill", other, 7, 1);
+            Remade.call(x, "fill", third, 6, 1);
+            boolean sound = source.equals(program);
+            Due.is("[" + sentence + "] " + one + ", " + other + ", " + third, Remade.call(x, "isSound"), sound);
+        }
     }
 
     private static String turned(int one, int other) {
